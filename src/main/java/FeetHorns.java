@@ -74,10 +74,6 @@ public final class FeetHorns {
         traits[FEET + 1] = horns;
         traits[FEET + 2] = tails;
         traits[TOLL] = toll;
-        // an undo may have left what an older sort of this number had
-        Arrays.fill(now.rows[sort], 0);
-        now.herds[0][sort] = 0;
-        now.herds[1][sort] = 0;
         now.sorts = sort + 1;
         return sort;
     }
@@ -471,7 +467,7 @@ public final class FeetHorns {
     }
 
     public int act(int sort, int act, int x) {
-        acts.ran = 0;
+        acts.forget();
         if (!isSort(sort) || !within(act, 0, ACT_COUNT - 1)) {
             return 0;
         }
@@ -634,6 +630,7 @@ public final class FeetHorns {
         final int[] bookNumbers = new int[MAX_BOOK];
         int fence = NO_FENCE;
 
+        /** All places are copied, not only those of sorts there are: so what a new sort finds is always 0. */
         void become(State other) {
             sorts = other.sorts;
             for (int s = 0; s < MAX_SORTS; s++) {
@@ -795,18 +792,15 @@ public final class FeetHorns {
         }
 
         private void readEither(int depth) {
-            readBoth(depth);
-            for (int i = 0; i < MAX_TEXT && takes('|'); i++) {
-                readBoth(depth);
-                fence.addCode(Fence.OR);
-            }
-        }
-
-        private void readBoth(int depth) {
-            readFactor(depth);
-            for (int i = 0; i < MAX_TEXT && takes('&'); i++) {
+            for (int i = 0; i == 0 || i < MAX_TEXT && takes('|'); i++) {
                 readFactor(depth);
-                fence.addCode(Fence.AND);
+                for (int j = 0; j < MAX_TEXT && takes('&'); j++) {
+                    readFactor(depth);
+                    fence.addCode(Fence.AND);
+                }
+                if (i > 0) {
+                    fence.addCode(Fence.OR);
+                }
             }
         }
 
@@ -823,19 +817,15 @@ public final class FeetHorns {
         }
 
         private void readTest() {
-            int letter = needOneOf(LETTERS);
-            int relation = needOneOf(RELATIONS);
+            int letter = takesOneOf(LETTERS, true);
+            int relation = takesOneOf(RELATIONS, true);
             fence.addCode(Fence.testCode(letter, relation, readNumber()));
         }
 
         private int readNumber() {
-            int number = needOneOf(DIGITS);
-            int next = placeIn(DIGITS);
-            if (next >= 0) {
-                place++;
-                number = number * 10 + next;
-            }
-            return number;
+            int first = takesOneOf(DIGITS, true);
+            int second = takesOneOf(DIGITS, false);
+            return second < 0 ? first : first * 10 + second;
         }
 
         /** Once a sign has failed none is taken any more, so that the place stays. */
@@ -859,17 +849,14 @@ public final class FeetHorns {
             }
         }
 
-        private int placeIn(String some) {
-            return failed || place >= length ? -1 : some.indexOf((char) signs[place]);
-        }
-
-        private int needOneOf(String some) {
-            int found = placeIn(some);
-            if (found < 0) {
+        /** Which of some signs is there and was taken, or -1. */
+        private int takesOneOf(String some, boolean needed) {
+            int found = failed || place >= length ? -1 : some.indexOf((char) signs[place]);
+            if (found >= 0) {
+                place++;
+            } else if (needed) {
                 failed = true;
-                return 0;
             }
-            place++;
             return found;
         }
     }
@@ -1087,8 +1074,11 @@ public final class FeetHorns {
         private int number;
         private int v;
 
-        int start(int[] traits, int sort, int act, int x) {
+        void forget() {
             ran = 0;
+        }
+
+        int start(int[] traits, int sort, int act, int x) {
             kind = traits[KIND];
             v = traits[NUMBER];
             number = sort;

@@ -350,8 +350,12 @@ public final class Promises {
         due("9: the newest holds", x.of(0, 6), 7);
         due("9: a fault", fence(x, "owe 3 s=0;"), -20);
         due("9: that which held holds", x.of(0, 6), 7);
+        due("9: a fault behind much that was right", fence(x, "owe 1 s=0|s=1;see 9 s=0;most 2;;"), -10 - 31);
+        due("9: that which held holds again", x.of(0, 6) + x.of(0, 10) + x.told(0), 7 + 4 + 8);
         for (int i = 2; i < 6; i++) {
             due("9: number", fence(x, "owe 9 s=1"), i);
+            due("9: nothing of the faulty ones", x.of(0, 6) + x.of(0, 10) + x.told(0), 5 + 4 + 8);
+            due("9: it holds", x.of(1, 6), 12);
         }
         feedAll(x, "owe 3 s=0");
         due("9: seventh", x.fence(), -4);
@@ -461,6 +465,9 @@ public final class Promises {
             due("11: what " + what, x.fits(what), -1001);
         }
         x = new FeetHorns();
+        due("11: no sorts: one herd", x.fits(0), 1);
+        due("11: no sorts: least", x.fits(1), 0);
+        due("11: no sorts: greatest", x.fits(2), 0);
         x.sort(0, 0, 1, 0, 0, 4);
         x.sort(0, 0, 1, 0, 0, 2);
         x.sort(0, 0, 1, 0, 0, 2);
@@ -590,6 +597,8 @@ public final class Promises {
         due("15: nothing told", x.missed(), 0);
         tellAll(x, 9, -1, -1);
         due("15: ten feet", x.missed(), 1);
+        tellAll(x, 8, -1, -1);
+        due("15: eight feet, ahead of herds that have more", x.missed(), 0);
         tellAll(x, 9, 3, -1);
         due("15: two cows and a goose", x.missed(), 2);
         tellAll(x, 9, 3, 6);
@@ -678,6 +687,11 @@ public final class Promises {
         }
         x.sort(0, 0, 1, 1, 1, 0);
         due("17: a sort that is not in the herd holds prices down", x.prices(0), 0);
+        x = new FeetHorns();
+        x.sort(0, 0, 3, 2, 1, 1);
+        x.herd(0, 0, 12);
+        due("17: the last price alone", x.prices(0), 12);
+        due("17: is 1", x.prices(3), 1);
     }
 
     private static void hid() {
@@ -872,9 +886,10 @@ public final class Promises {
         x.herd(0, 1, 8);
         x.month(2);
         tellAll(x, 1, -1, 3);
-        x.book(0, 21);
+        x.book(0, 7);
         due("25: one sort", x.image(), 1);
-        x.sort(1, 9, 9, 9, 9, 9);
+        x.sort(6, 9, 9, 9, 9, 9);
+        x.row(1, 2, 5);
         x.herd(1, 0, 3);
         x.herd(1, 1, 3);
         x.row(0, 2, 0);
@@ -900,7 +915,7 @@ public final class Promises {
             due("26: told horns", x.told(31), -5);
             due("26: told tails", x.told(32), 3);
             due("26: book", x.count(2), 1);
-            due("26: book's row", x.looked(), 0);
+            due("26: book's row", x.looked(), -5);
             x.book(-1, 0);
             x.herd(0, 0, 1);
             due("26: month", x.month(5), 2);
@@ -911,7 +926,7 @@ public final class Promises {
         due("26: the trace stays", x.trace(0), 71);
         due("26: the next sort has the next number", x.sort(6, 0, 0, 0, 0, 0), 1);
         due("26: none of it in the herd", x.of(1, 7) + x.of(1, 8), 0);
-        due("26: its row is new", x.row(1, 2, 1), 0);
+        due("26: its rows are new", x.row(1, 2, 1), 0);
         due("25: two sorts", x.image(), 2);
         due("26: two sorts", x.undo(), 2);
         due("26: the latest image", x.told(1), 5);
@@ -1077,6 +1092,7 @@ public final class Promises {
         due("31: all 0 again", x.read(0, 0), 0);
         due("31: nothing, whatever n", x.tape(0, -1, 99) + x.tape(0, -1, -99), 2);
         due("31: nothing there", x.item(0, 0, 1), -11);
+        due("31: nothing to read", x.read(0, 0), NO);
     }
 
     private static void itemAndRead() {
