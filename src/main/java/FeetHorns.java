@@ -381,21 +381,22 @@ public final class FeetHorns {
     // ---- odds, books
 
     public long odds(int sort, int part) {
-        return sharePerFittingHerd(search.having, sort, part);
+        searchFitting();
+        return sharePerHerdFound(search.having, sort, part);
     }
 
     public long mean(int sort, int part) {
-        return sharePerFittingHerd(search.heads, sort, part);
+        searchFitting();
+        return sharePerHerdFound(search.heads, sort, part);
     }
 
-    /** A part of the fraction, in lowest terms, of what the search sums up for a sort by how many herds fit. */
-    private long sharePerFittingHerd(int[] sums, int sort, int part) {
-        if (!isSort(sort) || !within(part, 0, 1)) {
+    /** A part of the fraction, in lowest terms, of what the search summed up for a sort by how many herds it found. */
+    private long sharePerHerdFound(int[] sums, int sort, int part) {
+        if (!isSort(sort) || !within(part, 0, 1) || search.found == 0) {
             return NO;
         }
-        searchFitting();
         long common = commonDivisor(search.found, sums[sort]);
-        if (search.found == 0 || common <= 0) {
+        if (common <= 0) {
             return NO;
         }
         return (part == 0 ? sums[sort] : search.found) / common;
@@ -804,15 +805,20 @@ public final class FeetHorns {
             }
         }
 
+        /** Each ! stands within those ahead of it, and holds for the whole F behind it. */
         private void readFactor(int depth) {
-            if (depth < MAX_NESTING && takes('!')) {
-                readFactor(depth + 1);
-                fence.addCode(Fence.NOT);
-            } else if (depth < MAX_NESTING && takes('(')) {
-                readEither(depth + 1);
+            int inside = depth;
+            for (int i = depth; i < MAX_NESTING && takes('!'); i++) {
+                inside++;
+            }
+            if (inside < MAX_NESTING && takes('(')) {
+                readEither(inside + 1);
                 need(")");
             } else {
                 readTest();
+            }
+            for (int i = depth; i < inside; i++) {
+                fence.addCode(Fence.NOT);
             }
         }
 
@@ -1054,7 +1060,7 @@ public final class FeetHorns {
 
     /** What the beasts do, and the trace of it. */
     private static final class Acts {
-        /** The deepest act has ten bodies open at once. */
+        /** The deepest acts, telling of PROUD and of TOLD ones, have six bodies open at once. */
         private static final int MAX_OPEN = 20;
 
         /** The body that each kind has, or inherits, for each act. */
@@ -1092,30 +1098,33 @@ public final class FeetHorns {
             }
             int body = BODIES[asKind * ACT_COUNT + act];
             begins(body);
-            int next = open + 1;
+            return done(body, x, open + 1);
+        }
+
+        private int done(int body, int x, int open) {
             switch (body) {
                 case 10:
                     return x + number;
                 case 11:
-                    return run(GOES, kind, x, next) - v;
+                    return run(GOES, kind, x, open) - v;
                 case 12:
-                    return run(SHOWS, kind, x, next) * 2;
+                    return run(SHOWS, kind, x, open) * 2;
                 case 20:
-                    return run(SHOWS, BEAST, x, next) ^ 6;
+                    return run(SHOWS, BEAST, x, open) ^ 6;
                 case 30:
-                    return run(GOES, BEAST, x * 3, next);
+                    return run(GOES, BEAST, x * 3, open);
                 case 40:
-                    return run(TELLS, BEAST, x, next) + run(SHOWS, kind, 1, next);
+                    return run(TELLS, BEAST, x, open) + run(SHOWS, kind, 1, open);
                 case 50:
-                    return -run(GOES, HORNED, x, next);
+                    return -run(GOES, HORNED, x, open);
                 case 51:
-                    return run(SHOWS, HORNED, x + 1, next);
+                    return run(SHOWS, HORNED, x + 1, open);
                 case 60:
-                    return run(TELLS, CALF, x - number, next);
+                    return run(TELLS, CALF, x - number, open);
                 case 70:
-                    return run(SHOWS, LAME, x, next) + run(GOES, LAME, 2, next);
+                    return run(SHOWS, LAME, x, open) + run(GOES, LAME, 2, open);
                 default:
-                    return run(GOES, LAME, x, next) ^ v;
+                    return run(GOES, LAME, x, open) ^ v;
             }
         }
 
